@@ -367,19 +367,33 @@ public final class Undogroups {
     }
 
     public long digest() {
+        int now = now();
         long d = DIGEST_START;
         for (int what = 0; what <= 7; what++) {
             d = mix(d, house(what));
         }
         for (int what = 0; what <= 11; what++) {
-            d = mix(d, of(now(), what));
+            d = mix(d, of(now, what));
         }
-        d = digestMembers(d);
-        d = digestEdges(d);
-        for (int step = 0; step < past.count; step++) {
+        for (int member = 0; member < past.members[now]; member++) {
+            for (int what = 0; what <= 10; what++) {
+                d = mix(d, ofMember(now, member, what));
+            }
+        }
+        for (int edge = 0; edge < book.count; edge++) {
+            d = mix(mix(d, told(edge, 4)), told(edge, 5));
+            for (int what = 0; what <= 5; what++) {
+                d = mix(d, ofEdge(now, edge, what));
+            }
+        }
+        for (int step = 0; step <= now; step++) {
             d = mix(mix(d, live(step)), of(step, 2));
         }
-        d = digestHeld(d);
+        for (int member = 0; member < past.members[now]; member++) {
+            for (int smaller = 0; smaller < member; smaller++) {
+                d = mix(d, held(now, member, smaller));
+            }
+        }
         for (int what = 0; what <= 3; what++) {
             d = mix(d, together(0, 1, what));
         }
@@ -388,41 +402,8 @@ public final class Undogroups {
         return mix(d, asNumber(isSound()));
     }
 
-    // ---- parts of the digest
-
     private static long mix(long d, long value) {
         return d * 31L + value;
-    }
-
-    private long digestMembers(long start) {
-        long d = start;
-        for (int member = 0; member < membersNow(); member++) {
-            for (int what = 0; what <= 10; what++) {
-                d = mix(d, ofMember(now(), member, what));
-            }
-        }
-        return d;
-    }
-
-    private long digestEdges(long start) {
-        long d = start;
-        for (int edge = 0; edge < book.count; edge++) {
-            d = mix(mix(d, told(edge, 4)), told(edge, 5));
-            for (int what = 0; what <= 5; what++) {
-                d = mix(d, ofEdge(now(), edge, what));
-            }
-        }
-        return d;
-    }
-
-    private long digestHeld(long start) {
-        long d = start;
-        for (int member = 0; member < membersNow(); member++) {
-            for (int smaller = 0; smaller < member; smaller++) {
-                d = mix(d, held(now(), member, smaller));
-            }
-        }
-        return d;
     }
 
     // ---- what a call needs
@@ -918,7 +899,7 @@ public final class Undogroups {
         int around(int set) {
             int found = 0;
             for (int member = 0; member < size; member++) {
-                if (has(set, member)) {
+                if ((set >>> member & 1) != 0) {
                     found |= near[member];
                 }
             }

@@ -127,6 +127,8 @@ public final class ActsTest {
         x.back(1);
         Due.fails(x, "join(0) without member 1", House.STATE, () -> x.join(0));
         Due.fails(x, "cut(0) that is not there", House.STATE, () -> x.cut(0));
+        x.back(0);
+        Due.fails(x, "join(0) without members", House.STATE, () -> x.join(0));
     }
 
     private static void backs() {

@@ -13,6 +13,7 @@ public final class AsOfStepTest {
         told();
         aparts();
         helds();
+        heldOnceMore();
         rows();
         laterMembers();
         outside();
@@ -266,6 +267,29 @@ public final class AsOfStepTest {
         Due.fails(x, "held as of 3", House.INDEX, () -> x.held(3, 0, 3));
         Due.fails(x, "held later", House.INDEX, () -> x.held(now + 1, 0, 1));
         Due.fails(x, "held as of -1", House.INDEX, () -> x.held(-1, 0, 0));
+    }
+
+    /** Graphs in which the first ways that are found by being short bar others, and have to be led off again. */
+    private static void heldOnceMore() {
+        Undogroups x = House.plain(14, e(1, 2), e(2, 3), e(3, 0), e(1, 4), e(4, 5), e(5, 3), e(2, 6), e(6, 7),
+            e(7, 0), e(1, 8), e(8, 9), e(9, 10), e(10, 3), e(2, 11), e(11, 12), e(12, 13), e(13, 0));
+        Due.same("held(0, 1) over 3 to 2", x.held(House.now(x), 0, 1), 3);
+        Due.same("held(1, 0) over 3 to 2", x.held(House.now(x), 1, 0), 3);
+        for (int[] way : new int[][] {e(1, 14, 15, 16, 17, 3), e(2, 18, 19, 20, 21, 0)}) {
+            for (int i = 1; i < way.length; i++) {
+                while (x.house(1) <= way[i]) {
+                    x.member();
+                }
+                x.edge(way[i - 1], way[i], 0, 0);
+            }
+        }
+        Due.same("held(0, 1) no more", x.held(House.now(x), 0, 1), 3);
+        Undogroups y = House.plain(12, e(1, 2), e(2, 3), e(3, 0), e(1, 4), e(4, 3), e(2, 5), e(5, 0), e(1, 6),
+            e(6, 7), e(7, 8), e(8, 2), e(3, 9), e(9, 10), e(10, 11), e(11, 0));
+        Due.same("held(0, 1) over 2 to 3", y.held(House.now(y), 0, 1), 3);
+        Due.same("held(1, 0) over 2 to 3", y.held(House.now(y), 1, 0), 3);
+        y.cut(1);
+        Due.same("held(0, 1) without", y.held(House.now(y), 0, 1), 2);
     }
 
     private static void rows() {
