@@ -194,7 +194,7 @@ public final class ActsTest {
         Due.same("joins", x.house(4), 0);
         Due.same("call() still", x.call(), 1);
         Undogroups y = House.plain(2, new int[] {0, 1});
-        while (y.house(0) < 249) {
+        for (int steps = y.house(0); steps < 249; steps++) {
             y.back(3);
         }
         Due.same("the last step", y.member(), 2);

@@ -35,8 +35,8 @@ final class House {
 
     /** Makes STEPS that are like NOW until there are 250. */
     static Undogroups fillSteps(Undogroups x) {
-        while (x.house(0) < 250) {
-            x.back(x.house(0) - 1);
+        for (int steps = x.house(0); steps < 250; steps++) {
+            x.back(steps - 1);
         }
         return x;
     }
