@@ -175,6 +175,27 @@ public final class BoundsOfAllTest {
         }
     }
 
+    // ---- answers do not hang on what was asked ahead of them
+
+    static void promise08To26TheOrderOfQuestionsMakesNoDifference() {
+        for (Story story : new Story[] {Stories.SMALL, Stories.GONE, Stories.FULL, Stories.TANGLED, Stories.LOOSE}) {
+            List<Integer> order = new ArrayList<>();
+            int count = story.questions().size();
+            for (int i = 0; i < count; i++) {
+                order.add(i % 2 == 0 ? i / 2 : count - 1 - i / 2);
+            }
+            List<Call> calls = new ArrayList<>();
+            for (int place : order) {
+                calls.add(story.questions().get(place));
+            }
+            List<String> got = story.ask(calls);
+            for (int i = 0; i < count; i++) {
+                Bounds.same("in another order, " + calls.get(i).text, got.get(i),
+                        story.answers().get(order.get(i)));
+            }
+        }
+    }
+
     // ---- the 512th call
 
     static void promise01To26The512thCall() {
@@ -197,7 +218,7 @@ public final class BoundsOfAllTest {
 
     /** 512 calls of all kinds on one object, many of them refused, each answered as the Model does. */
     static void promise01To26AllCallsUpToThe512th() {
-        for (Story story : new Story[] {Stories.FULL, Stories.TANGLED, Stories.LOOSE, Stories.NEARLY}) {
+        for (Story story : new Story[] {Stories.LOOSE, Stories.NEARLY}) {
             Undogroups house = story.tell();
             Model model = story.model();
             for (int i = 0; i < story.callsLeft(); i++) {

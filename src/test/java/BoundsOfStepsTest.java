@@ -251,6 +251,23 @@ public final class BoundsOfStepsTest {
         Bounds.dueAll(four, "ofMember(15, 0, 10) = 1", "ofMember(15, 7, 10) = 1");
     }
 
+    /** Three fours, each one of which has EDGES to all of the others': each colour is used four times. */
+    static void promise09ThreeColoursForTwelveMembers() {
+        Story fours = Story.members(12);
+        for (int one = 0; one < 12; one++) {
+            for (int two = one + 1; two < 12; two++) {
+                if (one % 3 != two % 3) {
+                    fours = fours.then("edge(" + one + ", " + two + ", 0, 0)");
+                }
+            }
+        }
+        Bounds.dueAll(fours, "of(60, 1) = 48", "ofMember(60, 0, 10) = 1", "ofMember(60, 11, 10) = 1");
+        for (String edge : new String[] {"edge(0, 3, 0, 0)", "edge(10, 7, 0, 0)", "edge(2, 11, 0, 0)"}) {
+            Bounds.dueAll(fours.then(edge), "ofMember(61, 0, 10) = 0", "ofMember(60, 0, 10) = 1");
+            Bounds.due(fours.then(edge, "cut(0)", "cut(48)"), "ofMember(63, 11, 10)", 1);
+        }
+    }
+
     // ---- promise 10
 
     static void promise10StepsThatAreNot() {
