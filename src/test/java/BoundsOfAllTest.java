@@ -196,6 +196,33 @@ public final class BoundsOfAllTest {
         }
     }
 
+    /** Asked, then an act, then asked again on the same object: what a STEP keeps, it keeps for good. */
+    static void promise02To06WhatWasAskedIsAnsweredTheSameBehindEachAct() {
+        String[] acts = {"member()", "edge(1, 0, 9, 0)", "cut(0)", "join(1)", "back(2)", "back(0)"};
+        Story story = Stories.SMALL;
+        for (Call question : story.questions()) {
+            if (!isAsOfSteps(question)) {
+                continue;
+            }
+            for (String act : acts) {
+                Undogroups house = story.tell();
+                String before = question.on(house);
+                Bounds.same(act + " is done", Call.of(act).on(house).startsWith("throws"), false);
+                Bounds.same(question.text + " behind " + act, question.on(house), before);
+            }
+        }
+    }
+
+    private static boolean isAsOfSteps(Call question) {
+        for (String name : new String[] {"of", "ofMember", "ofEdge", "apart", "held", "live", "row", "twin",
+            "change"}) {
+            if (question.text.startsWith(name + "(")) {
+                return true;
+            }
+        }
+        return false;
+    }
+
     // ---- the 512th call
 
     static void promise01To26The512thCall() {

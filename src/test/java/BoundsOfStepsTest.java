@@ -251,6 +251,15 @@ public final class BoundsOfStepsTest {
         Bounds.dueAll(four, "ofMember(15, 0, 10) = 1", "ofMember(15, 7, 10) = 1");
     }
 
+    /** One that came later, and has EDGES to all three colours, is not there as of an earlier STEP. */
+    static void promise09ThreeBehindOneThatWasAskedWithALaterMember() {
+        Story story = Story.members(3).then("edge(0, 1, 0, 0)", "edge(1, 2, 0, 0)", "edge(2, 0, 0, 0)", "member()",
+                "edge(3, 0, 0, 0)", "edge(3, 1, 0, 0)", "edge(3, 2, 0, 0)");
+        Bounds.dueInTurn(story, "ofMember(10, 3, 10) = 0", "ofMember(6, 0, 10) = 1", "ofMember(10, 0, 10) = 0",
+                "ofMember(6, 2, 10) = 1");
+        Bounds.dueInTurn(story.then("back(6)"), "ofMember(10, 3, 10) = 0", "ofMember(11, 0, 10) = 1");
+    }
+
     /** Three fours, each one of which has EDGES to all of the others': each colour is used four times. */
     static void promise09ThreeColoursForTwelveMembers() {
         Story fours = Story.members(12);
